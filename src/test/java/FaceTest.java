@@ -1,0 +1,140 @@
+import java.io.IOException;
+import java.lang.reflect.Constructor;
+import java.lang.reflect.Executable;
+import java.lang.reflect.Field;
+import java.lang.reflect.Method;
+import java.lang.reflect.Modifier;
+import java.nio.file.Files;
+import java.nio.file.Path;
+import java.util.ArrayList;
+import java.util.List;
+import java.util.Set;
+import java.util.TreeSet;
+import java.util.regex.Matcher;
+import java.util.regex.Pattern;
+
+/** The face is the document's, no more and no less, and the file keeps to what a text search can tell of LANGUAGE.md. */
+public final class FaceTest {
+    private static int wrong = 0;
+
+    private static void fault(String text) {
+        wrong++;
+        System.out.println(text);
+    }
+
+    public static void main(String[] args) throws IOException {
+        Set<String> due = dueFace(Files.readString(Path.of("../shared/DOC.md")));
+        Set<String> got = toldFace();
+        if (due.size() != 36) {
+            fault("the document's face has " + due.size() + " calls, read were to be 36");
+        }
+        for (String line : due) {
+            if (!got.contains(line)) {
+                fault("missing: " + line);
+            }
+        }
+        for (String line : got) {
+            if (!due.contains(line)) {
+                fault("not in the document: " + line);
+            }
+        }
+        everyFieldIsPrivate();
+        String source = Files.readString(Path.of("src/main/java/Trigonyard.java"));
+        textRules(source);
+        methodsAreShort(source);
+        System.out.println(wrong == 0 ? "face: all as due" : "face: " + wrong + " faults");
+        if (wrong != 0) {
+            System.exit(1);
+        }
+    }
+
+    private static Set<String> dueFace(String document) {
+        Set<String> face = new TreeSet<>();
+        Matcher m = Pattern.compile("(?m)^    public ([^;]*);").matcher(document);
+        while (m.find()) {
+            face.add(m.group(1).replaceAll("\\b(int|long|char) \\w+(?=[,)])", "$1").replaceAll("\\s+", " "));
+        }
+        return face;
+    }
+
+    private static Set<String> toldFace() {
+        Set<String> face = new TreeSet<>();
+        if (!Modifier.isFinal(Trigonyard.class.getModifiers()) || !Modifier.isPublic(Trigonyard.class.getModifiers())) {
+            fault("the class is not public and final");
+        }
+        for (Constructor<?> c : Trigonyard.class.getDeclaredConstructors()) {
+            addUnlessPrivate(face, c, c.getDeclaringClass().getSimpleName());
+        }
+        for (Method m : Trigonyard.class.getDeclaredMethods()) {
+            addUnlessPrivate(face, m, m.getReturnType().getSimpleName() + " " + m.getName());
+        }
+        return face;
+    }
+
+    private static void addUnlessPrivate(Set<String> face, Executable e, String name) {
+        if (!Modifier.isPrivate(e.getModifiers())) {
+            String line = name + "(" + names(e.getParameterTypes()) + ")";
+            String thrown = names(e.getExceptionTypes());
+            face.add(thrown.isEmpty() ? line : line + " throws " + thrown);
+        }
+    }
+
+    private static String names(Class<?>[] types) {
+        List<String> all = new ArrayList<>();
+        for (Class<?> type : types) {
+            all.add(type.getSimpleName());
+        }
+        return String.join(", ", all);
+    }
+
+    private static void everyFieldIsPrivate() {
+        for (Field f : Trigonyard.class.getDeclaredFields()) {
+            if (!Modifier.isPrivate(f.getModifiers())) {
+                fault("not private: " + f.getName());
+            }
+            if (Modifier.isStatic(f.getModifiers()) && !Modifier.isFinal(f.getModifiers())) {
+                fault("static, not final: " + f.getName());
+            }
+        }
+        if (Trigonyard.class.getDeclaredClasses().length > 12) {
+            fault("more than twelve classes");
+        }
+    }
+
+    private static void textRules(String source) {
+        String code = source.replaceAll("(?s)/\\*.*?\\*/", "").replaceAll("//[^\n]*", "");
+        String[] none = {"->", "::", "Exact", "StrictMath", "BigInteger", "\\bvar\\b", "\\bfinally\\b", "\\bcatch\\b",
+            "\\bassert\\b", "synchronized", "instanceof", "\\bgetMessage\\b", "\\bSystem\\.(?!arraycopy)",
+            "Math\\.(?!max|min|abs)", "Double\\.", "Float\\.", "import (?!java\\.util\\.NoSuchElementException;)",
+            "^package"};
+        for (String pattern : none) {
+            Matcher m = Pattern.compile(pattern, Pattern.MULTILINE).matcher(code);
+            if (m.find()) {
+                fault("in the code: " + pattern);
+            }
+        }
+        for (String name : new String[] {"put", "take", "side", "copy", "scale", "sort", "list", "hypot", "root"}) {
+            if (Pattern.compile("private [\\w ]*\\b" + name + "\\(").matcher(code).find()) {
+                fault("a private method bears a public name: " + name);
+            }
+        }
+    }
+
+    private static void methodsAreShort(String source) {
+        String[] lines = source.split("\n");
+        int start = -1;
+        String indent = "";
+        for (int i = 0; i < lines.length; i++) {
+            Matcher m = Pattern.compile("^( {4}| {8})\\S.*\\(.*").matcher(lines[i]);
+            if (start < 0 && m.matches() && !lines[i].endsWith(";") && !lines[i].contains("//")) {
+                start = i;
+                indent = m.group(1);
+            } else if (start >= 0 && lines[i].equals(indent + "}")) {
+                if (i - start + 1 > 60) {
+                    fault("longer than sixty lines: " + lines[start].trim());
+                }
+                start = -1;
+            }
+        }
+    }
+}
