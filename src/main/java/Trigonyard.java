@@ -496,9 +496,9 @@ public final class Trigonyard {
         }
 
         /**
-         * The double that is nearest to the square root of a number of up to 34 digits, as StrictMath's sqrt()
-         * tells it. It takes the root digit by digit, one more than a double holds, by which it is rounded; that
-         * digit is never the last one of the root, as its square would have over 100 digits.
+         * The double that is nearest to the square root of a number of up to 34 digits: what StrictMath's sqrt()
+         * tells. The root is taken digit by digit, up to one more than a double holds, by which it is rounded. It
+         * never lies in the middle between two doubles: its square would have over 100 digits then.
          */
         static double nearestRoot(long number) {
             long root = 0;
