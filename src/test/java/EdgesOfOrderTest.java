@@ -180,10 +180,12 @@ public final class EdgesOfOrderTest extends Sentences {
             }
             h = h.multiply(BigInteger.valueOf(31)).add(number);
         }
-        for (String triangle : list(x).isEmpty() ? new String[0] : list(x).split(", ")) {
+        String list = list(x);
+        for (String triangle : list.isEmpty() ? new String[0] : list.split(", ")) {
             h = h.multiply(BigInteger.valueOf(31)).add(new BigInteger(triangle.split(" ")[2]));
         }
-        for (String place : order(x).isEmpty() ? new String[0] : order(x).split(" ")) {
+        String order = order(x);
+        for (String place : order.isEmpty() ? new String[0] : order.split(" ")) {
             h = h.multiply(BigInteger.valueOf(31)).add(new BigInteger(place));
         }
         return h.longValue();

@@ -17,35 +17,35 @@ public final class EdgesOfTermsTest extends Sentences {
         t.end();
     }
 
-    /** The last of 512 calls answers as the first one does. */
-    private void dueOf512(String what, Maker maker, Call call) {
+    /** The last of 512 calls, of which the maker has made some, answers as the first one does. */
+    private void dueOf512(String what, int made, Maker maker, Call call) {
         Object want = call.on(maker.make());
         Trigonyard x = maker.make();
         Object got = null;
-        for (int i = 0; i < 512; i++) {
+        for (int calls = made; calls < 512; calls++) {
             got = call.on(x);
         }
-        due(what + " for the 512th time", got, want);
+        due(what + " as the 512th call", got, want);
     }
 
     private void manyCalls() {
         testTerm("An object is used for at most 512 calls after it has been made", () -> {
-            dueOf512("put", Sentences::fresh, x -> x.put(15, 65535, 65535, 65535));
-            dueOf512("list e", Sentences::fresh, x -> x.list('e', 400));
-            dueOf512("list t", Sentences::fresh, x -> x.list('t', 400));
-            dueOf512("list h", Sentences::fresh, x -> x.list('h', 400));
-            dueOf512("listIsTrue", Sentences::fresh, x -> x.listIsTrue(400));
-            dueOf512("counts c", Sentences::fresh, x -> x.counts('c', 1000));
-            dueOf512("counts l", Sentences::fresh, x -> x.counts('l', 1000));
-            dueOf512("countIsTrue", Sentences::fresh, x -> x.countIsTrue(997));
-            dueOf512("rootIsTrue", Sentences::fresh, x -> x.rootIsTrue(8589672450L));
-            dueOf512("hypotIsTrue", Sentences::fresh, x -> x.hypotIsTrue(65535, 65534));
-            dueOf512("sort", Sentences::full, x -> x.sort('s'));
-            dueOf512("checksum", Sentences::full, x -> x.checksum());
-            dueOf512("isTrue", () -> holding(361, 65160, 65161), x -> x.isTrue(0));
-            dueOf512("depth", () -> holding(361, 65160, 65161), x -> x.depth(0));
-            dueOf512("join", () -> holding(3, 4, 5), x -> x.join(0, 0, 15));
-            dueOf512("refused", Sentences::full, x -> thrownBy(x, y -> y.list('x', 401)));
+            dueOf512("put", 0, Sentences::fresh, x -> x.put(15, 65535, 65535, 65535));
+            dueOf512("list e", 0, Sentences::fresh, x -> x.list('e', 400));
+            dueOf512("list t", 0, Sentences::fresh, x -> x.list('t', 400));
+            dueOf512("list h", 0, Sentences::fresh, x -> x.list('h', 400));
+            dueOf512("listIsTrue", 0, Sentences::fresh, x -> x.listIsTrue(400));
+            dueOf512("counts c", 0, Sentences::fresh, x -> x.counts('c', 1000));
+            dueOf512("counts l", 0, Sentences::fresh, x -> x.counts('l', 1000));
+            dueOf512("countIsTrue", 0, Sentences::fresh, x -> x.countIsTrue(997));
+            dueOf512("rootIsTrue", 0, Sentences::fresh, x -> x.rootIsTrue(8589672450L));
+            dueOf512("hypotIsTrue", 0, Sentences::fresh, x -> x.hypotIsTrue(65535, 65534));
+            dueOf512("sort", 18, Sentences::full, x -> x.sort('s'));
+            dueOf512("checksum", 18, Sentences::full, x -> x.checksum());
+            dueOf512("isTrue", 3, () -> holding(361, 65160, 65161), x -> x.isTrue(0));
+            dueOf512("depth", 3, () -> holding(361, 65160, 65161), x -> x.depth(0));
+            dueOf512("join", 3, () -> holding(3, 4, 5), x -> x.join(0, 0, 15));
+            dueOf512("refused", 18, Sentences::full, x -> thrownBy(x, y -> y.list('x', 401)));
         });
     }
 

@@ -245,6 +245,13 @@ public final class EdgesOfTrianglesTest extends Sentences {
             x.copy(2, 14);
             x.reduce(14);
             due("apart from the reduced one", at(x, 2), "9 12 15");
+            x.step(14, 'a');
+            x.copy(14, 13);
+            x.step(13, 'p');
+            due("apart from the stepped one", at(x, 14) + ", " + at(x, 13), "5 12 13, 3 4 5");
+            x.copy(14, 13);
+            x.put(14, 1, 1, 1);
+            due("apart from what is put where it was", at(x, 13), "5 12 13");
             leavesAll("copy to its own place", Sentences::full, y -> y.copy(15, 15));
         });
         test(6, "`place`: 0 to 15", () -> placesAreAlike((x, place) -> x.copy(place, place)));
@@ -343,6 +350,11 @@ public final class EdgesOfTrianglesTest extends Sentences {
             due("reduced", at(x, 0) + ", " + at(x, 1) + ", " + at(x, 2), "3 4 5, 1 1 1, 1 2 2");
             due("reduced", at(x, 3) + ", " + at(x, 4), "2 2 3, 1 2 2");
             due("the list stays", list(x), list(busy()));
+            for (int times = 1; times <= 16383; times += times < 100 ? 1 : 181) {
+                Trigonyard y = holding(2 * times, 3 * times, 4 * times);
+                due("reduce of 2 3 4 times " + times, y.reduce(0), times);
+                due("reduced from 2 3 4 times " + times, at(y, 0), "2 3 4");
+            }
             leavesAll("reduce of one without a common divisor", Sentences::full, y -> y.reduce(15));
             leavesAll("reduce of 1, 1, 1", () -> holding(1, 1, 1), y -> y.reduce(0));
             leavesAll("reduce of one with common divisors of each two", () -> holding(6, 10, 15), y -> y.reduce(0));
