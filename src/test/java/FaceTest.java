@@ -39,8 +39,11 @@ public final class FaceTest {
             }
         }
         everyFieldIsPrivate();
+        noMoreThanTheClassItself();
+        classesInsideAreHidden();
         noPrivateMethodBearsAPublicName();
         String source = Files.readString(Path.of("src/main/java/Trigonyard.java"));
+        parametersAreNamedAsTold(Files.readString(Path.of("../shared/DOC.md")), source);
         textRules(source);
         methodsAreShort(source);
         System.out.println(wrong == 0 ? "face: all as due" : "face: " + wrong + " faults");
@@ -72,8 +75,39 @@ public final class FaceTest {
         return face;
     }
 
+    private static void parametersAreNamedAsTold(String document, String source) {
+        String code = source.replaceAll("\\s+", " ");
+        Matcher m = Pattern.compile("(?m)^    (public [^;]*);").matcher(document);
+        while (m.find()) {
+            if (!code.contains(m.group(1) + " {")) {
+                fault("not word by word in the code: " + m.group(1));
+            }
+        }
+    }
+
+    private static void noMoreThanTheClassItself() {
+        if (Trigonyard.class.getSuperclass() != Object.class || Trigonyard.class.getInterfaces().length > 0) {
+            fault("the class is one of another sort, too");
+        }
+        if (Trigonyard.class.getTypeParameters().length > 0 || Trigonyard.class.getPackageName().length() > 0) {
+            fault("the class has a parameter or a package");
+        }
+    }
+
+    private static void classesInsideAreHidden() {
+        for (Class<?> inside : Trigonyard.class.getDeclaredClasses()) {
+            int modifiers = inside.getModifiers();
+            if (Modifier.isPublic(modifiers) || Modifier.isProtected(modifiers) || !Modifier.isStatic(modifiers)) {
+                fault("not private or package-visible and static: " + inside.getSimpleName());
+            }
+        }
+    }
+
     private static void addUnlessPrivate(Set<String> face, Executable e, String name) {
         if (!Modifier.isPrivate(e.getModifiers())) {
+            if (e.getModifiers() != Modifier.PUBLIC) {
+                fault("not public alone: " + name);
+            }
             String line = name + "(" + names(e.getParameterTypes()) + ")";
             String thrown = names(e.getExceptionTypes());
             face.add(thrown.isEmpty() ? line : line + " throws " + thrown);
